@@ -1,0 +1,66 @@
+/** What the tests of the project share: telling a NET as a text, and comparing answers with what is due. */
+final class Due {
+    static final int NONE = -1;
+    static final int NOTHING = -1000000;
+
+    private static int wrong = 0;
+    private static int seen = 0;
+    private static String about = "";
+
+    private Due() {
+    }
+
+    static void about(String what) {
+        about = what;
+    }
+
+    static void is(String call, long got, long want) {
+        seen++;
+        if (got != want) {
+            wrong++;
+            if (wrong <= 40) {
+                System.out.println(about + ": " + call + " answered " + got + ", due is " + want);
+            }
+        }
+    }
+
+    static void holds(String what, boolean is) {
+        is(what, is ? 1 : 0, 1);
+    }
+
+    /** Feeds a text, twenty bytes a call, and cuts what pads it. */
+    static void feed(AngleNet x, String text) {
+        int had = x.count(4);
+        for (int at = 0; at < text.length(); at += 20) {
+            int[] words = new int[5];
+            for (int i = 0; i < 20; i++) {
+                int b = at + i < text.length() ? text.charAt(at + i) & 255 : 0;
+                words[i / 4] = words[i / 4] << 8 | b;
+            }
+            x.feed(words[0], words[1], words[2], words[3], words[4]);
+        }
+        x.end(had + text.length());
+    }
+
+    static int tell(AngleNet x, String text) {
+        feed(x, text);
+        return x.net();
+    }
+
+    static AngleNet told(String text) {
+        AngleNet x = new AngleNet();
+        int lines = tell(x, text);
+        if (lines < 0) {
+            holds("a text without FAULT: " + text + " (" + x.fault(0) + " at " + x.fault(1) + ")", false);
+        }
+        return x;
+    }
+
+    /** Ends the test: exit code 1, if an answer was wrong. */
+    static void end() {
+        System.out.println(seen + " answers, " + wrong + " not as due");
+        if (wrong != 0 || seen == 0) {
+            System.exit(1);
+        }
+    }
+}
