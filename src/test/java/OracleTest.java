@@ -48,6 +48,9 @@ public final class OracleTest {
         for (long seed = 1; seed <= 300; seed++) {
             checkDelaunay(seed);
         }
+        for (long seed = 1; seed <= 300; seed++) {
+            checkBall(seed);
+        }
         checkManyTrees();
         Due.end();
     }
@@ -756,6 +759,74 @@ public final class OracleTest {
             }
         }
         Due.is("hinders(2)", x.hinders(2), x.inscribed() == 1 ? NONE : best);
+    }
+
+    /** A ball made from a tetrahedron by POSTS put into THIRDS and by drawn FLIPS, with drawn weights. */
+    private static void checkBall(long seed) {
+        Random random = new Random(seed);
+        int posts = 4 + random.nextInt(7);
+        List<int[]> ball = new ArrayList<>();
+        ball.add(new int[] {0, 1, 2});
+        ball.add(new int[] {0, 1, 3});
+        ball.add(new int[] {0, 2, 3});
+        ball.add(new int[] {1, 2, 3});
+        for (int p = 4; p < posts; p++) {
+            int[] t = ball.remove(random.nextInt(ball.size()));
+            ball.add(new int[] {t[0], t[1], p});
+            ball.add(new int[] {p, t[1], t[2]});
+            ball.add(new int[] {t[2], p, t[0]});
+        }
+        StringBuilder text = new StringBuilder("posts " + posts + ";");
+        for (int[] t : ball) {
+            text.append("third ").append(t[0]).append(' ').append(t[1]).append(' ').append(t[2]).append(';');
+        }
+        Due.about("ball " + seed + ": " + text);
+        AngleNet x = Due.told(text.toString());
+        for (int i = 0; i < 3; i++) {
+            x.flips(random.nextInt(2000000001), 30);
+            Due.is("EULER", x.surface(0), 2);
+            Due.is("GOOD", x.surface(1), 1);
+            Due.is("TWO-SIDED", x.surface(3), 1);
+            Due.is("RIM", x.surface(4), 0);
+            Due.is("HANDLES", x.surface(6), 0);
+            weighBall(x, posts, random, 40 + random.nextInt(160));
+        }
+    }
+
+    private static void weighBall(AngleNet x, int posts, Random random, int most) {
+        int[][] weight = new int[posts][posts];
+        int badSide = NONE;
+        for (int i = 0; i < x.count(2); i++) {
+            int p = x.sides(i) / 10;
+            int q = x.sides(i) % 10;
+            int w = random.nextInt(30) == 0 ? 0 : 1 + random.nextInt(most);
+            weight[p][q] = w;
+            weight[q][p] = w;
+            x.weigh(p, q, w);
+            badSide = badSide == NONE && (w == 0 || w > 179) ? x.sides(i) : badSide;
+        }
+        int badPost = NONE;
+        int badSet = NONE;
+        for (int set = 0; set < 1 << posts; set++) {
+            int between = 0;
+            for (int p = 0; p < posts; p++) {
+                for (int q = 0; q < posts; q++) {
+                    between += (set >> p & 1) == 1 && (set >> q & 1) == 0 ? weight[p][q] : 0;
+                }
+            }
+            int n = Integer.bitCount(set);
+            if (n == 1 && between != 360 && badPost == NONE) {
+                badPost = Integer.numberOfTrailingZeros(set);
+            }
+            if (n > 1 && posts - n > 1 && between <= 360 && (badSet == NONE || n < Integer.bitCount(badSet))) {
+                badSet = set;
+            }
+        }
+        Due.is("hinders(0)", x.hinders(0), badSide);
+        Due.is("hinders(1)", x.hinders(1), badPost);
+        Due.is("hinders(2)", x.hinders(2), badSet);
+        int why = badSide != NONE ? 2 : badPost != NONE ? 3 : badSet != NONE ? 4 : 0;
+        Due.is("inscribed()", x.inscribed(), why);
     }
 
     /** A drawn set of places, told as a fan round a point: legal() ends, and no POST is inside of a THIRD's circle. */

@@ -129,6 +129,15 @@ public final class PromiseTest {
         Due.is("third(0, 0)", x.third(0, 0), 2);
         Due.is("third(0, 3)", x.third(0, 3), 100);
         Due.is("post(0, 0)", x.post(0, 0), NONE);
+        Due.tell(x, SQUARE + "corner 3 to 4;weight 0 2 9;angle 0 1;place 0 1 1;circle 0 1;");
+        Due.is("corner in the next one, too", Due.tell(x, SQUARE + "corner 5 to 6;"), 4);
+        Due.is("no weight", x.cut(1), 0);
+        Due.is("no angle", x.post(0, 0), NONE);
+        Due.is("no place", x.post(0, 1), NONE);
+        Due.is("no circle", x.post(0, 3), NONE);
+        Due.tell(x, SQUARE);
+        Due.is("no corner", x.count(7), 1);
+        Due.is("no corner", x.count(8), 360);
         Due.is("blanks alone", Due.tell(x, " \n "), 0);
         Due.is("no NET", x.can(), -2);
     }
@@ -161,6 +170,11 @@ public final class PromiseTest {
     private static void faultsOfTokens() {
         fault("post 4;", 1, 0);
         fault("posts4", 1, 6);
+        fault("postsz 4;", 1, 0);
+        fault("zposts 4;", 1, 0);
+        fault("pasts 4;", 1, 0);
+        fault("posts 4;mhird 0 1 2;", 1, 8);
+        fault("posts 4;thirm 0 1 2;", 1, 8);
         fault("posts", 1, 5);
         fault("posts 4 \n", 1, 9);
         fault(";", 1, 0);
@@ -223,6 +237,7 @@ public final class PromiseTest {
         fault("posts 4;third 0 1 2;third 2 0 1;", 2, 30);
         fault("posts 5;third 0 1 2;third 0 1 3;third 0 1 4;", 2, 42);
         fault("posts 5;third 0 1 2;third 0 1 3;third 0 4 1;", 2, 42);
+        fault("posts 5;third 0 1 2;third 0 1 3;third 4 0 1;", 2, 42);
         fault("posts 5;third 0 1 2;third 0 1 3;third 0 1;", 1, 41);
         StringBuilder torus = new StringBuilder("posts 10;");
         for (int t = 0; t < 9; t++) {
@@ -451,6 +466,9 @@ public final class PromiseTest {
         Due.is("inside(2, 1, 0, 5)", x.inside(2, 1, 0, 5), -1);
         Due.is("inside(0, 1, 6, 5), on a line", x.inside(0, 1, 6, 5), NOTHING);
         Due.is("inside(0, 1, 2, 0)", x.inside(0, 1, 2, 0), NOTHING);
+        Due.is("inside(0, 1, 2, 1)", x.inside(0, 1, 2, 1), NOTHING);
+        Due.is("inside(0, 1, 2, 2)", x.inside(0, 1, 2, 2), NOTHING);
+        Due.is("inside(7, 1, 2, 3)", x.inside(7, 1, 2, 3), NOTHING);
         Due.is("inside(0, 0, 2, 3)", x.inside(0, 0, 2, 3), NOTHING);
         Due.is("inside(0, 1, 2, 7)", x.inside(0, 1, 2, 7), NOTHING);
         Due.is("inside(0, 1, 2, 8)", x.inside(0, 1, 2, 8), NOTHING);
@@ -473,6 +491,10 @@ public final class PromiseTest {
         Due.is("may(1, 3)", x.may(1, 3), 7);
         Due.is("illegal()", x.illegal(), 13);
         Due.is("no places", Due.told(SQUARE).may(0, 2), 1);
+        String[] lacking = {"place 0 0 0;", "place 1 10 0;", "place 2 8 8;", "place 3 0 10;"};
+        for (String place : lacking) {
+            Due.is("KEEN wants all four, " + place, Due.told(KITE.replace(place, "")).may(0, 2), 1);
+        }
         Due.is("its other SIDE is one", Due.told(TETRA).may(0, 1), 0);
         AngleNet dart = Due.told("posts 4;third 0 1 2;third 0 2 3;place 0 0 0;place 1 10 0;place 2 2 2;place 3 0 10;");
         Due.is("not KEEN", dart.may(0, 2), 1);
@@ -568,6 +590,18 @@ public final class PromiseTest {
         Due.is("legal(100)", x.legal(100), -2);
         Due.is("legal(99)", x.legal(99), 0);
         Due.is("no NET", new AngleNet().legal(1), -2);
+        AngleNet full = Due.told(KITE);
+        for (int i = 0; i < 97; i++) {
+            full.flip(i % 2 == 0 ? 0 : 1, i % 2 == 0 ? 2 : 3);
+        }
+        Due.is("97 are done", full.legal(99), 1);
+        full.flip(0, 2);
+        Due.is("99 are done", full.count(5), 99);
+        Due.is("illegal()", full.illegal(), 13);
+        Due.is("none, when 99 are done", full.legal(99), 0);
+        full.undo();
+        Due.is("undone ones stay, if none was", full.legal(99), 0);
+        Due.is("count(6)", full.count(6), 1);
         AngleNet fan = Due.told("posts 6;third 0 1 2;third 0 2 3;third 0 3 4;third 0 4 5;"
                 + "place 0 0 40;place 1 10 10;place 2 40 0;place 3 70 2;place 4 90 20;place 5 95 50;");
         int all = fan.legal(99);
@@ -582,20 +616,10 @@ public final class PromiseTest {
 
     private static void drawn() {
         Due.about("26 flips, VII");
+        for (int n = 1; n <= 40; n++) {
+            drawn(n, 1234567 * n);
+        }
         AngleNet x = Due.told(octa());
-        AngleNet y = Due.told(octa());
-        long state = 77;
-        int made = 0;
-        for (int i = 0; i < 40; i++) {
-            state = (1103515245L * state + 12345L) % 2147483648L;
-            int side = y.sides((int) (state / 65536 % 12));
-            made += y.flip(side / 10, side % 10) >= 0 ? 1 : 0;
-        }
-        Due.is("flips(77, 40)", x.flips(77, 40), made);
-        Due.is("count(5)", x.count(5), made);
-        for (int i = 0; i < 24; i++) {
-            Due.is("third", x.third(i / 3, i % 3), y.third(i / 3, i % 3));
-        }
         Due.is("flips(-1, 1)", x.flips(-1, 1), -2);
         Due.is("flips(2000000001, 1)", x.flips(2000000001, 1), -2);
         Due.holds("flips(2000000000, 1)", x.flips(2000000000, 1) >= 0);
@@ -603,6 +627,23 @@ public final class PromiseTest {
         Due.is("flips(0, 41)", x.flips(0, 41), -2);
         Due.is("no SIDES", Due.told("posts 3;").flips(0, 1), -2);
         Due.is("none may be", Due.told(TETRA).flips(0, 40), 0);
+    }
+
+    private static void drawn(int n, int seed) {
+        AngleNet x = Due.told(octa());
+        AngleNet y = Due.told(octa());
+        long state = seed;
+        int made = 0;
+        for (int i = 0; i < n; i++) {
+            state = (1103515245L * state + 12345L) % 2147483648L;
+            int side = y.sides((int) (state / 65536 % 12));
+            made += y.flip(side / 10, side % 10) >= 0 ? 1 : 0;
+        }
+        Due.is("flips(" + seed + ", " + n + ")", x.flips(seed, n), made);
+        Due.is("count(5)", x.count(5), made);
+        for (int i = 0; i < 24; i++) {
+            Due.is("third", x.third(i / 3, i % 3), y.third(i / 3, i % 3));
+        }
     }
 
     private static void weights() {
@@ -654,11 +695,31 @@ public final class PromiseTest {
         Due.is("another set", set.inscribed(), 4);
         Due.is("its others are the same in number: the lesser", set.hinders(2), 13);
         Due.is("cut", set.cut(13), 30);
+        AngleNet edges = Due.told(TETRA + "weight 0 1 179;weight 2 3 179;weight 0 2 180;weight 1 3 180;weight 0 3 1;weight 1 2 1;");
+        Due.is("180 is too much", edges.hinders(0), 2);
+        Due.is("all POSTS are well", edges.hinders(1), NONE);
+        edges.weigh(0, 2, 179);
+        edges.weigh(1, 3, 179);
+        Due.is("1 and 179 are weights", edges.hinders(0), NONE);
+        edges.weigh(0, 3, 2);
+        edges.weigh(1, 2, 2);
+        Due.is("a flat one", edges.inscribed(), 0);
+        edges.weigh(0, 3, 0);
+        Due.is("0 is no weight", edges.hinders(0), 3);
+        AngleNet just = Due.told(octa());
+        int[][] sides = {{0, 1, 20}, {0, 2, 160}, {0, 3, 160}, {0, 4, 20}, {5, 1, 160}, {5, 2, 20}, {5, 3, 20}, {5, 4, 160},
+            {1, 2, 20}, {2, 3, 160}, {3, 4, 20}, {1, 4, 160}};
+        for (int[] s : sides) {
+            just.weigh(s[0], s[1], s[2]);
+        }
+        Due.is("another set", just.inscribed(), 4);
+        Due.is("another set", just.hinders(2), 13);
         Due.is("no such surface", Due.told(SQUARE).inscribed(), 1);
         Due.is("no such surface", Due.told(SQUARE).hinders(0), NONE);
         Due.is("no such surface", Due.told(torus()).inscribed(), 1);
         Due.is("no such surface", Due.told("posts 3;").inscribed(), 1);
         Due.is("no NET", new AngleNet().hinders(0), -2);
+        Due.is("no NET", new AngleNet().inscribed(), -2);
         AngleNet apart = Due.told(TETRA_EVEN.replace("posts 4", "posts 5"));
         Due.is("a POST that no THIRD has", apart.inscribed(), 3);
         Due.is("a POST that no THIRD has", apart.hinders(1), 4);
@@ -697,7 +758,12 @@ public final class PromiseTest {
         Due.is("through(0, 1, 2, 3)", x.through(0, 1, 2, 3), 0);
         Due.is("through(0, 0, 2, 3)", x.through(0, 0, 2, 3), NOTHING);
         Due.is("through(0, 1, 2, 2)", x.through(0, 1, 2, 2), NOTHING);
+        Due.is("through alone", Due.told(TETRA).through(0, 1, 0, 1), 2);
         AngleNet apart = Due.told("posts 8;third 0 1 2;third 3 4 5;third 4 5 6;");
+        Due.is("of the other PART", apart.height(0, 1, 0), 2);
+        Due.is("SIDES of the other PART, too", apart.flow(0, 1, 2), 5);
+        Due.is("SIDES of the other PART, too", apart.flow(3, 6, 2), 4);
+        Due.is("nothing goes there", apart.through(3, 6, 0, 1), 0);
         Due.is("of its PART", apart.height(3, 6, 3), 8);
         Due.is("of its PART", apart.flow(3, 6, 0), 8);
         Due.is("of another PART", apart.height(3, 6, 0), -2);
@@ -724,6 +790,12 @@ public final class PromiseTest {
         Due.is("fourth(4, 0)", x.fourth(4, 0), NOTHING);
         Due.is("fourth(-1, 0)", x.fourth(-1, 0), NOTHING);
         Due.is("whole()", x.whole(), 3);
+        for (int p = 0; p < 3; p++) {
+            AngleNet lacks = Due.told("posts 3;third 0 1 2;circle " + p + " 0;circle " + (p + 1) % 3 + " 1;");
+            Due.is("one has no circle", lacks.fourth(0, 0), NOTHING);
+            Due.is("one has no circle", lacks.whole(), 0);
+        }
+        Due.is("no NET", new AngleNet().whole(), -2);
         AngleNet great = Due.told("posts 3;third 0 1 2;circle 0 9999;circle 1 9999;circle 2 0;");
         Due.is("great", great.fourth(0, 0), 4 * 9999);
         Due.is("great", great.fourth(0, 1), 0);
@@ -833,6 +905,7 @@ public final class PromiseTest {
         }
         Due.is("count(11)", x.count(11), NONE);
         Due.is("count(-1)", x.count(-1), NONE);
+        Due.is("the first POST, too", Due.told("posts 3;place 0 0 0;").count(9), 1);
         AngleNet plain = Due.told("posts 3;");
         Due.is("count(7)", plain.count(7), 1);
         Due.is("count(8)", plain.count(8), 360);
@@ -880,6 +953,16 @@ public final class PromiseTest {
         Due.is("count(0)", x.count(0), 5);
         Due.is("an image is not changed by what came", x.back(2), 0);
         Due.is("count(5)", x.count(5), 1);
+        AngleNet y = Due.told("posts 5;third 0 1 2;third 0 2 3;third 0 3 4;weight 0 2 8;");
+        y.flip(0, 2);
+        y.keep(0);
+        y.undo();
+        y.flip(0, 3);
+        y.back(0);
+        y.undo();
+        Due.is("what was done is kept", y.side(0, 2), 2);
+        Due.is("what was done is kept", y.side(0, 3), 2);
+        Due.is("what was done is kept", y.cut(1), 8);
         Due.is("back(1), no NET", x.back(1), 0);
         Due.is("count(0)", x.count(0), 0);
     }
