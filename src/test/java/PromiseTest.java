@@ -491,9 +491,11 @@ public final class PromiseTest {
         Due.is("may(1, 3)", x.may(1, 3), 7);
         Due.is("illegal()", x.illegal(), 13);
         Due.is("no places", Due.told(SQUARE).may(0, 2), 1);
-        String[] lacking = {"place 0 0 0;", "place 1 10 0;", "place 2 8 8;", "place 3 0 10;"};
-        for (String place : lacking) {
-            Due.is("KEEN wants all four, " + place, Due.told(KITE.replace(place, "")).may(0, 2), 1);
+        // The one without a place would make it KEEN, if no place were one just below 0.
+        for (int p = 0; p < 4; p++) {
+            String three = "place " + (p + 1) % 4 + " 10 0;place " + (p + 2) % 4 + " 8 8;place " + (p + 3) % 4 + " 0 10;";
+            Due.is("KEEN wants all four", Due.told("posts 4;third 0 1 2;third 0 2 3;" + three).may(0, 2), 1);
+            Due.is("KEEN", Due.told("posts 4;third 0 1 2;third 0 2 3;place " + p + " 0 0;" + three).may(0, 2) & 3, 3);
         }
         Due.is("its other SIDE is one", Due.told(TETRA).may(0, 1), 0);
         AngleNet dart = Due.told("posts 4;third 0 1 2;third 0 2 3;place 0 0 0;place 1 10 0;place 2 2 2;place 3 0 10;");
@@ -791,7 +793,7 @@ public final class PromiseTest {
         Due.is("fourth(-1, 0)", x.fourth(-1, 0), NOTHING);
         Due.is("whole()", x.whole(), 3);
         for (int p = 0; p < 3; p++) {
-            AngleNet lacks = Due.told("posts 3;third 0 1 2;circle " + p + " 0;circle " + (p + 1) % 3 + " 1;");
+            AngleNet lacks = Due.told("posts 3;third 0 1 2;circle " + p + " 2;circle " + (p + 1) % 3 + " 2;");
             Due.is("one has no circle", lacks.fourth(0, 0), NOTHING);
             Due.is("one has no circle", lacks.whole(), 0);
         }
