@@ -725,7 +725,7 @@ public final class AngleNet {
         }
 
         boolean isRim(int p, int q) {
-            return isSide(p, q) && shared[MOST_POSTS * p + q] == 1;
+            return isPost(p) && isPost(q) && shared[MOST_POSTS * p + q] == 1;
         }
 
         boolean hasPlace(int p) {
@@ -936,7 +936,7 @@ public final class AngleNet {
         private int valueOfToken() {
             int sum = 0;
             for (int i = start; i < stop; i++) {
-                sum = Math.min(HUGE, 10 * sum + bytes[i] - '0');
+                sum = sum < HUGE ? 10 * sum + bytes[i] - '0' : HUGE;
             }
             return sum;
         }
