@@ -89,12 +89,10 @@ public final class AngleNet {
     }
 
     public int net() {
-        boolean good = tape.readAll();
-        // A faulty text goes too: what is fed next is a text of its own, as the runs under shared/tests have it.
-        tape.length = 0;
-        if (!good) {
+        if (!tape.readAll()) {
             return FAULTY;
         }
+        tape.length = 0;
         now.copyFrom(tape.draft);
         return now.lines;
     }

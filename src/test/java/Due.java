@@ -42,7 +42,9 @@ final class Due {
         x.end(had + text.length());
     }
 
+    /** Tells a text of its own, whatever the TAPE has. */
     static int tell(AngleNet x, String text) {
+        x.end(0);
         feed(x, text);
         return x.net();
     }

@@ -122,6 +122,15 @@ public final class PromiseTest {
         Due.is("faulty", Due.tell(x, "posts 3;third 0 1 3;"), -4);
         Due.is("the NET stays", x.count(0), 5);
         Due.is("the FLIP stays", x.count(5), 1);
+        Due.is("the TAPE stays", x.count(4), 20);
+        Due.is("faulty again", x.net(), -4);
+        x.end(8);
+        Due.feed(x, " third 0 1 2;");
+        Due.is("mended", x.net(), 2);
+        Due.is("the TAPE is empty", x.count(4), 0);
+        Due.is("nothing is done", x.count(5), 0);
+        Due.tell(x, SQUARE + "angle 0 90;");
+        x.flip(0, 2);
         Due.is("undo", x.undo(), 1);
         Due.is("count(6)", x.count(6), 1);
         Due.is("another", Due.tell(x, "posts 3 ; third 2 1 0 sum 100 ;\n"), 2);
@@ -159,7 +168,7 @@ public final class PromiseTest {
         Due.is("fault(0)", x.fault(0), 1);
         Due.is("fault(1)", x.fault(1), 8);
         Due.is("fault(-1)", x.fault(-1), NONE);
-        Due.is("what came next is a text of its own", Due.tell(x, "posts 3;"), 1);
+        Due.is("net()", Due.tell(x, "posts 3;"), 1);
         Due.is("fault(0)", x.fault(0), 0);
         Due.is("fault(1)", x.fault(1), NONE);
         faultsOfTokens();
@@ -948,6 +957,7 @@ public final class PromiseTest {
         Due.is("cut(1)", x.cut(1), 77);
         Due.is("count(6)", x.count(6), 2);
         Due.is("back(1)", x.back(1), -6);
+        x.end(0);
         x.net();
         Due.is("no NET", x.can(), -2);
         x.keep(1);
