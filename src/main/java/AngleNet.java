@@ -425,7 +425,11 @@ public final class AngleNet {
         if (!hasFlow(from, to) || !now.isSide(p, q)) {
             return NOTHING;
         }
-        currents.solve(now, shape.partOf(now, from), from, to);
+        int part = shape.partOf(now, from);
+        if ((part >> p & 1) == 0) {
+            return NOTHING;
+        }
+        currents.solve(now, part, from, to);
         long divisor = currents.divisor(now);
         if (divisor == 0) {
             return NOTHING;

@@ -24,6 +24,10 @@ final class Due {
         }
     }
 
+    static int seen() {
+        return seen;
+    }
+
     static void holds(String what, boolean is) {
         is(what, is ? 1 : 0, 1);
     }

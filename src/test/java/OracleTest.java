@@ -568,9 +568,10 @@ public final class OracleTest {
         Due.is("flow(1)", x.flow(from, to, 1), joined ? common : -2);
         Due.is("flow(2)", x.flow(from, to, 2), joined ? idle : -2);
         for (int[] e : edges) {
-            long through = joined ? (height[e[0]] - height[e[1]]) / common : NOTHING;
+            boolean there = joined && joinedBy(edges, -1, from, e[0]);
+            long through = there ? (height[e[0]] - height[e[1]]) / common : NOTHING;
             Due.is("through", x.through(from, to, e[0], e[1]), through);
-            Due.is("through, back", x.through(from, to, e[1], e[0]), joined ? -through : NOTHING);
+            Due.is("through, back", x.through(from, to, e[1], e[0]), there ? -through : NOTHING);
         }
     }
 

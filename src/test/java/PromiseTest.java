@@ -774,7 +774,7 @@ public final class PromiseTest {
         Due.is("of the other PART", apart.height(0, 1, 0), 2);
         Due.is("SIDES of the other PART, too", apart.flow(0, 1, 2), 5);
         Due.is("SIDES of the other PART, too", apart.flow(3, 6, 2), 4);
-        Due.is("nothing goes there", apart.through(3, 6, 0, 1), 0);
+        Due.is("a SIDE of another PART", apart.through(3, 6, 0, 1), NOTHING);
         Due.is("of its PART", apart.height(3, 6, 3), 8);
         Due.is("of its PART", apart.flow(3, 6, 0), 8);
         Due.is("of another PART", apart.height(3, 6, 0), -2);
