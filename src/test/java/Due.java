@@ -62,6 +62,40 @@ final class Due {
         return x;
     }
 
+    /** All that an IMAGE keeps, as far as calls tell it. */
+    static String picture(AngleNet x) {
+        StringBuilder seen = new StringBuilder();
+        for (int what = 0; what <= 9; what++) {
+            seen.append(what == 4 ? 0 : x.count(what)).append(' ');
+        }
+        for (int t = 0; t < x.count(1); t++) {
+            for (int k = 0; k < 4; k++) {
+                seen.append(x.third(t, k)).append(' ');
+            }
+        }
+        for (int p = 0; p < x.count(0); p++) {
+            for (int what = 0; what < 4; what++) {
+                seen.append(x.post(p, what)).append(' ');
+            }
+            for (int q = 0; q < p; q++) {
+                seen.append(x.cut(1 << p | 1 << q)).append(' ');
+            }
+        }
+        return seen.toString();
+    }
+
+    static void same(String what, String was, String is) {
+        holds(what + ": was " + was + ", is " + is, was.equals(is));
+    }
+
+    /** Gives a SLOT a row of these numbers. */
+    static void fill(AngleNet x, int slot, int width, long... numbers) {
+        x.row(slot, width, numbers.length);
+        for (int i = 0; i < numbers.length; i++) {
+            x.write(slot, i, numbers[i]);
+        }
+    }
+
     /** Ends the test: exit code 1, if an answer was wrong. */
     static void end() {
         System.out.println(seen + " answers, " + wrong + " not as due");

@@ -55,6 +55,12 @@ final class Sentences {
         }
     }
 
+    static void closePromises(int first, int last) {
+        for (int n = first; n <= last; n++) {
+            Due.is("sections of promise " + n, close("Promise " + n + ":"), 1);
+        }
+    }
+
     /** How many sections begin so; of none of them words are left. */
     static int close(String beginning) {
         closeWords();
