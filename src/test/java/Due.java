@@ -62,6 +62,25 @@ final class Due {
         return x;
     }
 
+    /** As many POSTS and THIRDS as can be: a torus of nine POSTS less a THIRD, and the tenth POST; all are told all. */
+    static String greatest() {
+        StringBuilder text = new StringBuilder("posts 10;");
+        for (int t = 0; t < 9; t++) {
+            int right = t / 3 * 3 + (t + 1) % 3;
+            int down = (t + 3) % 9;
+            int both = (right + 3) % 9;
+            text.append("third ").append(t).append(' ').append(right).append(' ').append(both).append(';');
+            text.append("third ").append(t == 8 ? 9 : t).append(' ').append(both).append(' ').append(down).append(';');
+        }
+        // Each POST has 60 of each of its THIRDS: six, but for the three that lost one or got one.
+        int[] angles = {360, 360, 360, 360, 360, 360, 360, 360, 300, 60};
+        for (int p = 0; p < 10; p++) {
+            text.append("angle ").append(p).append(' ').append(angles[p]).append(";circle ").append(p).append(" 0;");
+            text.append("place ").append(p).append(' ').append(7 * p % 10).append(' ').append(p * p % 10).append(';');
+        }
+        return text.toString();
+    }
+
     /** All that an IMAGE keeps, as far as calls tell it. */
     static String picture(AngleNet x) {
         StringBuilder seen = new StringBuilder();
@@ -82,6 +101,38 @@ final class Due {
             }
         }
         return seen.toString();
+    }
+
+    /** What calls that change nothing answer about the NET; SLOT 0 is written. */
+    static String answers(AngleNet x) {
+        StringBuilder seen = new StringBuilder(picture(x));
+        int posts = x.count(0);
+        seen.append(x.over()).append(' ').append(x.can()).append(' ').append(x.bars(0)).append(' ').append(x.bars(1));
+        seen.append(' ').append(x.illegal()).append(' ').append(x.inscribed()).append(' ').append(x.trees());
+        seen.append(' ').append(x.whole()).append(' ');
+        for (int what = 0; what < 7; what++) {
+            seen.append(x.surface(what)).append(' ').append(x.hinders(what % 3)).append(' ');
+        }
+        for (int i = 0; i < 3 * x.count(1); i++) {
+            seen.append(x.range(i / 3, i % 3, i % 2)).append(' ').append(x.fourth(i / 3, i % 2)).append(' ');
+        }
+        for (int p = 0; p < posts; p++) {
+            seen.append(x.free(p, 0)).append(' ').append(x.free(p, 1)).append(' ').append(x.round(p, p / 2)).append(' ');
+            seen.append(x.turn(p, (p + 1) % posts, (p + 2) % posts)).append(' ').append(x.height(0, posts - 1, p)).append(' ');
+        }
+        for (int i = 0; i < x.count(2); i++) {
+            int p = x.sides(i) / 10;
+            int q = x.sides(i) % 10;
+            seen.append(x.may(p, q)).append(' ').append(x.through(0, posts - 1, p, q)).append(' ');
+            fill(x, 0, 0, 10 * q + p);
+            seen.append(x.judge(0)).append(' ');
+        }
+        long[] corners = new long[3 * x.count(1)];
+        for (int i = 0; i < corners.length; i++) {
+            corners[i] = x.third(i / 3, 3) / 3;
+        }
+        fill(x, 0, 3, corners);
+        return seen.append(x.laid(0)).toString();
     }
 
     static void same(String what, String was, String is) {

@@ -82,6 +82,12 @@ public final class EdgeFlipTest {
         for (int d = 3; d < 8; d++) {
             Due.is("inside(0, 1, 2, " + d + ")", fine.inside(0, 1, 2, d), due[d - 3]);
         }
+        AngleNet unit = Due.told("posts 6;place 0 0 0;place 1 1 0;place 2 0 1;place 3 1 1;place 4 2 1;place 5 1 2;");
+        for (int[] o : orders) {
+            Due.is("a TURN of 1: on it", unit.inside(o[0], o[1], o[2], 3), 0);
+            Due.is("a TURN of 1: outside", unit.inside(o[0], o[1], o[2], 4), -1);
+        }
+        Due.is("a TURN of 1: inside", Due.told("posts 4;place 0 0 0;place 1 3 1;place 2 2 1;place 3 3 0;").inside(0, 1, 2, 3), 1);
         AngleNet wide = Due.told("posts 6;place 0 0 0;place 1 99 0;place 2 0 99;place 3 99 99;place 4 98 99;place 5 1 1;");
         Due.is("wide: on it", wide.inside(0, 1, 2, 3), 0);
         Due.is("wide: inside", wide.inside(0, 1, 2, 4), 1);
@@ -261,6 +267,12 @@ public final class EdgeFlipTest {
         Due.is("undo()", x.undo(), 1);
         Due.same("as ahead of it", first.replaceFirst(" 0 0 1 360 ", " 0 2 1 360 "), Due.picture(x));
         Due.is("the weight", x.weigh(0, 2, 70), 70);
+        AngleNet higher = Due.told("posts 6;third 0 4 5;third 4 5 1;third 2 0 1;third 3 2 0;weight 0 2 70;weight 1 5 8;");
+        String stood = Due.picture(higher);
+        higher.flip(0, 2);
+        higher.weigh(1, 3, 33);
+        Due.is("undo()", higher.undo(), 1);
+        Due.same("THIRDS 2 and 3 as they were", stood.replaceFirst(" 0 0 1 360 ", " 0 1 1 360 "), Due.picture(higher));
         AngleNet y = Due.told(SQUARE + "weight 0 2 70;");
         y.flips(7, 40);
         while (y.count(5) > 0) {
@@ -464,6 +476,13 @@ public final class EdgeFlipTest {
         Due.is("fewest POSTS: 3 4, though 0 1 2 has lesser bits", z.hinders(2), 24);
         z.weigh(0, 2, 90);
         Due.is("of several the least bits: 0 1", z.hinders(2), 3);
+        AngleNet pairs = octa(90);
+        int[][] sides = {{2, 3, 1}, {2, 5, 1}, {0, 1, 1}, {0, 2, 100}, {1, 2, 100}};
+        for (int[] side : sides) {
+            pairs.weigh(side[0], side[1], side[2]);
+        }
+        Due.is("0 2 and 1 2, but not 0 1", pairs.cut(3) > 360 && pairs.cut(5) <= 360 && pairs.cut(6) <= 360 ? 1 : 0, 1);
+        Due.is("of several the least bits: 0 2, not 1 2", pairs.hinders(2), 5);
         z.weigh(4, 0, 0);
         Due.is("such a weight beside", z.hinders(0), 4);
 
@@ -631,6 +650,12 @@ public final class EdgeFlipTest {
             Due.is("fourth(0, 1) of " + d[0] + " " + d[1] + " " + d[2], x.fourth(0, 1), d[4]);
         }
         manyCircles();
+        AngleNet all = Due.told("posts 9;third 0 1 2;third 3 4 5;third 6 7 8;circle 0 2;circle 1 2;circle 2 3;circle 3 1;circle 4 4;"
+                + "circle 5 9;circle 6 3;circle 7 6;circle 8 7;");
+        int[] bends = {15, -1, 28, 0, 34, -2};
+        for (int i = 0; i < 6; i++) {
+            Due.is("fourth(" + i / 2 + ", " + i % 2 + ")", all.fourth(i / 2, i % 2), bends[i]);
+        }
 
         Sentences.says("NOTHING: that is no whole number, one has no circle, there are none such.");
         Due.is("no whole number", circles(1, 1, 1).fourth(0, 0), NOTHING);

@@ -1,3 +1,5 @@
+import java.util.Arrays;
+
 /** The promises 37 to 44, sentence by sentence: each boundary case that they name, and each call that they refuse. */
 public final class EdgeRowTest {
     private static final int NONE = Due.NONE;
@@ -5,7 +7,7 @@ public final class EdgeRowTest {
     private static final int LOW = Integer.MIN_VALUE;
     private static final int[] NO_SLOTS = {-1, 4, 5, FAR, LOW};
     private static final String SQUARE = "posts 4;third 0 1 2;third 0 2 3;";
-    private static final String RICH = SQUARE + "angle 0 90;angle 2 70;corner 5 to 170;weight 0 2 44;weight 1 2 9;"
+    private static final String RICH = "posts 5;third 0 1 2;third 0 2 3;third 0 3 4;angle 0 90;angle 2 70;corner 5 to 170;weight 0 2 44;weight 1 2 9;"
             + "place 0 0 0;place 1 9 0;place 2 9 9;place 3 1 9;circle 0 3;circle 3 8;";
 
     private EdgeRowTest() {
@@ -114,6 +116,14 @@ public final class EdgeRowTest {
         Due.is("as they stand", slotted("posts 3;third 2 0 1;angle 2 9;", 9, 100, 71).laid(0), 0);
         Due.is("as they stand", slotted("posts 3;third 2 0 1;angle 2 9;", 100, 71, 9).laid(0), 202);
         Due.is("no THIRDS", slotted("posts 3;").laid(0), 0);
+        long[] sixties = new long[54];
+        Arrays.fill(sixties, 60);
+        Due.is("ten POSTS, 18 THIRDS", slotted(Due.greatest(), sixties).laid(0), 0);
+        for (int i = 0; i < 54; i++) {
+            sixties[i] = 61;
+            Due.is("each of 18 THIRDS", slotted(Due.greatest(), sixties).laid(0), 100 + i / 3);
+            sixties[i] = 60;
+        }
         for (int width = 0; width < 4; width++) {
             AngleNet x = Due.told(two);
             Due.fill(x, width, width, 30, 80, 70, 60, 60, 60);
@@ -139,6 +149,12 @@ public final class EdgeRowTest {
         Due.is("POST 3", slotted(two, 30, 80, 70, 60, 61, 59).laid(0), 203);
         Due.is("a POST ahead of CORNERS", slotted(two, 30, 5, 145, 60, 61, 59).laid(0), 203);
         Due.is("a POST that no THIRD has", slotted("posts 3;angle 2 1;").laid(0), 202);
+        for (int p = 0; p < 10; p++) {
+            AngleNet great = Due.told(Due.greatest());
+            Due.fill(great, 1, 1, sixties);
+            great.tells(p, great.post(p, 0) - 1);
+            Due.is("each of ten POSTS", great.laid(1), 200 + p);
+        }
 
         Sentences.says("300 and the first CORNER (3 times the THIRD and k) beyond its bounds, the least such number.");
         Due.is("below", slotted(two, 9, 80, 91, 81, 39, 60).laid(0), 300);
@@ -147,6 +163,9 @@ public final class EdgeRowTest {
         Due.is("the second THIRD", slotted(two, 81, 60, 39, 9, 111, 60).laid(0), 303);
         Due.is("the second THIRD", slotted(two, 20, 80, 80, 70, 9, 101).laid(0), 203);
         Due.is("the last", slotted(SQUARE + "corner 10 to 150;", 60, 60, 60, 85, 86, 9).laid(0), 305);
+        sixties[53] = 0;
+        sixties[52] = 120;
+        Due.is("the last of 54", slotted(Due.greatest().replaceAll("angle \\d+ \\d+;", ""), sixties).laid(0), 353);
 
         Sentences.says("-2 likewise; -6 likewise;");
         AngleNet x = Due.told(two);
@@ -215,6 +234,7 @@ public final class EdgeRowTest {
         x.flip(1, 3);
         x.flip(0, 2);
         x.undo();
+        Due.is("done", x.count(5), 2);
         return x;
     }
 
@@ -224,7 +244,7 @@ public final class EdgeRowTest {
         x.weigh(0, 1, 99);
         x.tells(0, 0);
         x.tells(3, 77);
-        x.flip(0, 2);
+        x.flip(0, 3);
     }
 
     private static void keep() {
@@ -253,7 +273,7 @@ public final class EdgeRowTest {
                 Due.is("done", x.undo(), 1);
             }
             Due.is("done", x.undo(), 0);
-            Due.is("the weight that it had", x.cut(5), Due.told(RICH).cut(5));
+            Due.same("all as it was told", Due.picture(Due.told(RICH)).replaceFirst(" 0 0 5 170 ", " 0 3 5 170 "), Due.picture(x));
         }
         AngleNet y = Due.told(SQUARE);
         y.keep(0);

@@ -100,6 +100,14 @@ public final class EdgeTest {
         Due.is("just 1,600", full.feed(0x20202020, 0x20202020, 0x20202020, 0x20202020, 0x2020203b), 1600);
         Due.is("the last byte counts", full.net(), -4);
         Due.is("the last byte counts", full.fault(1), 1599);
+        char[] lasts = {' ', '\n', '3', 'x', 0};
+        for (char last : lasts) {
+            AngleNet y = new AngleNet();
+            Due.feed(y, " ".repeat(1599) + last);
+            Due.is("1,600 bytes", y.count(4), 1600);
+            Due.is("blanks and byte " + (int) last, y.net(), last == ' ' || last == '\n' ? 0 : -4);
+            Due.is("fault(1)", y.fault(1), last == ' ' || last == '\n' ? NONE : 1599);
+        }
     }
 
     private static void end() {
@@ -129,6 +137,16 @@ public final class EdgeTest {
         }
         Due.is("net()", y.net(), 1);
         Due.is("what was cut is gone", y.end(8), NONE);
+        String[][] cut = {{"posts 3  ", "1", "7"}, {"posts 10;", "2", "6"}, {"posts 3;third", "1", "8"}, {"posts 3;\n\n\n", "0", "-1"}};
+        int[] lengths = {7, 7, 12, 9};
+        for (int i = 0; i < cut.length; i++) {
+            y.end(0);
+            Due.feed(y, cut[i][0]);
+            y.end(lengths[i]);
+            y.net();
+            Due.is("what was cut counts no more: fault(0) of " + cut[i][0], y.fault(0), Integer.parseInt(cut[i][1]));
+            Due.is("what was cut counts no more: fault(1) of " + cut[i][0], y.fault(1), Integer.parseInt(cut[i][2]));
+        }
     }
 
     private static void net() {
@@ -140,6 +158,11 @@ public final class EdgeTest {
         x.tells(3, 33);
         Due.is("another", Due.tell(x, "posts 5;third 4 3 2;"), 2);
         Due.same("nothing of the other is left", Due.picture(Due.told("posts 5;third 4 3 2;")), Due.picture(x));
+        AngleNet after = Due.told(Due.greatest());
+        Due.is("after the greatest", Due.tell(after, RICH), 14);
+        Due.same("nothing of the greatest is left", Due.answers(Due.told(RICH)), Due.answers(after));
+        Due.tell(after, Due.greatest());
+        Due.same("nothing of the lesser is left", Due.answers(Due.told(Due.greatest())), Due.answers(after));
         Due.is("an empty TAPE: no NET", x.net(), 0);
         Due.same("no NET", Due.picture(new AngleNet()), Due.picture(x));
         Due.is("no NET", x.can(), -2);
@@ -323,6 +346,7 @@ public final class EdgeTest {
         Due.is("two of one PART", Due.told(band).surface(5), 2);
         Due.is("two of two PARTS", Due.told(two).surface(5), 2);
         Due.is("three", Due.told("posts 9;third 0 1 2;third 3 4 5;third 6 7 8;").surface(5), 3);
+        Due.is("three, one among the others", Due.told("posts 10;third 0 3 9;third 1 4 7;third 2 5 8;").surface(5), 3);
         Due.is("not GOOD", Due.told(bow).surface(5), NONE);
 
         Sentences.says("6: HANDLES (of one PART, GOOD, TWO-SIDED: 2 less EULER less rings, by 2), else NONE.");
@@ -420,6 +444,10 @@ public final class EdgeTest {
         Due.is("a POST that no THIRD has, not told", Due.told("posts 4;third 0 1 2;angle 0 60;angle 1 60;angle 2 60;").over(), 0);
         Due.is("no THIRDS, none told", Due.told("posts 3;").over(), 0);
         Due.is("no THIRDS, one told", Due.told("posts 3;angle 1 9;").over(), 9);
+        AngleNet greatest = Due.told(Due.greatest());
+        Due.is("ten POSTS, 18 THIRDS", greatest.over(), 0);
+        greatest.tells(9, 61);
+        Due.is("ten POSTS, 18 THIRDS", greatest.over(), 1);
         Due.is("all told angles", Due.told("posts 4;third 0 1 2;angle 0 60;angle 1 60;angle 2 60;angle 3 4;").over(), 4);
 
         Sentences.says("NOTHING (-1,000,000): one is not, there is no NET.");
@@ -465,6 +493,8 @@ public final class EdgeTest {
         Due.is("two", y.bars(0), 24);
         y.tells(0, 200);
         Due.is("fewer", y.bars(0), 1);
+        AngleNet pairs = Due.told("posts 3;third 0 1 2;angle 0 50;angle 1 50;angle 2 150;");
+        Due.is("the least bits of two pairs: 0 2, not 1 2", pairs.bars(0), 5);
         AngleNet empty = Due.told("posts 3;third 0 1 2 sum 9;corner 4 to 9;angle 0 100;");
         Due.is("none of them is the fewest", empty.bars(0), 0);
         AngleNet all = Due.told("posts 3;third 0 1 2;angle 0 60;angle 1 60;angle 2 61;");

@@ -71,6 +71,25 @@ public final class TermsTest {
         well("posts 4;corner 1 to 9;", 2);
         fault(1, "posts 4;^sum 9;");
         fault(1, "posts 4;^to 9;");
+        words("", "posts", "");
+        String[] firsts = {"third", "angle", "corner", "weight", "place", "circle"};
+        for (String word : firsts) {
+            words("posts 4;", word, "");
+        }
+        words("posts 4;corner 1 ", "to", " 9;");
+        words("posts 4;third 0 1 2 ", "sum", " 9;");
+    }
+
+    /** A word with another letter, with one more, with one less, is none that can stand there. */
+    private static void words(String before, String word, String behind) {
+        for (int i = 0; i < word.length(); i++) {
+            char other = word.charAt(i) == 'z' ? 'y' : (char) (word.charAt(i) + 1);
+            fault(1, before + "^" + word.substring(0, i) + other + word.substring(i + 1) + behind);
+        }
+        fault(1, before + "^" + word + "x" + behind);
+        fault(1, before + "^x" + word + behind);
+        fault(1, before + "^" + word.substring(1) + behind);
+        fault(1, before + "^" + word.substring(0, word.length() - 1) + behind);
     }
 
     /** A LINE that lacks a TOKEN, has another one there, or one more. */
@@ -565,7 +584,16 @@ public final class TermsTest {
         String second = "third 0 2 3;";
         Sentences.says("KEEN (of one that may be FLIPPED, all four with places):");
         Due.is("all four", Due.told(square(second, 0, 0, 9, 0, 9, 9, 0, 9)).may(0, 2), 3);
-        Due.is("three", Due.told(square(second, 0, 0, 9, 0, 9, 9)).may(0, 2), 1);
+        for (int p = 0; p < 4; p++) {
+            // The one that lacks its place would be KEEN with the others, if no place were one just below 0.
+            StringBuilder three = new StringBuilder("posts 4;third 0 1 2;third 0 2 3;");
+            for (int q = 1; q < 4; q++) {
+                three.append("place ").append((p + q) % 4).append(q == 1 ? " 9 0;" : q == 2 ? " 9 9;" : " 0 9;");
+            }
+            Due.is("three", Due.told(three.toString()).may(0, 2), 1);
+            three.append("place ").append(p).append(" 0 0;");
+            Due.is("all four", Due.told(three.toString()).may(0, 2), 3);
+        }
         AngleNet rim = Due.told(square(second, 0, 0, 9, 0, 9, 9, 0, 9));
         Due.is("a RIM", rim.may(0, 1), 0);
         // A SIDE 1 3 elsewhere: the square is as good, but it may not be FLIPPED.
@@ -575,6 +603,8 @@ public final class TermsTest {
         Sentences.says("with the SIDE's POSTS a, b (a the lesser), c beside it of the lesser THIRD, d of the other one, TURNS of (a, b, c), (b, a, d), (a, d, c), (b, c, d) are all above or all below 0.");
         Due.is("all below", Due.told(square(second, 0, 0, 9, 0, 9, 9, 0, 9)).may(0, 2), 3);
         Due.is("all above", Due.told(square(second, 0, 0, 0, 9, 9, 9, 9, 0)).may(0, 2), 3);
+        Due.is("all above, one of 1", Due.told(square(second, 0, 0, 1, 2, 2, 3, 9, 0)).may(0, 2) & 2, 2);
+        Due.is("all below, one of -1", Due.told(square(second, 0, 0, 2, 1, 3, 2, 0, 9)).may(0, 2) & 2, 2);
         Due.is("(a, b, c) is 0", Due.told(square(second, 0, 0, 5, 5, 9, 9, 0, 9)).may(0, 2), 1);
         Due.is("(b, a, d) is 0", Due.told(square(second, 0, 0, 9, 0, 9, 9, 5, 5)).may(0, 2), 1);
         Due.is("(a, d, c) is 0", Due.told(square(second, 5, 5, 10, 0, 20, 20, 0, 10)).may(0, 2), 1);
@@ -670,6 +700,12 @@ public final class TermsTest {
         Sentences.says("VI. TREES: sets of SIDES by which all POSTS that THIRDS have hang together without rings.");
         Due.is("a THIRD, and POSTS that none has", Due.told("posts 10;third 7 8 9;").trees(), 3);
         Due.is("two THIRDS at a POST", Due.told("posts 10;third 7 8 9;third 0 1 9;").trees(), 9);
+        StringBuilder wheel = new StringBuilder("posts 10;");
+        for (int i = 0; i < 9; i++) {
+            wheel.append("third 9 ").append(i).append(' ').append((i + 1) % 9).append(';');
+        }
+        // The 18th Lucas number less 2.
+        Due.is("a wheel of ten POSTS", Due.told(wheel.toString()).trees(), 5776);
         Due.is("two THIRDS at a SIDE", Due.told("posts 4;third 0 1 2;third 0 1 3;").trees(), 8);
         Due.is("two PARTS", Due.told("posts 6;third 0 1 2;third 3 4 5;").trees(), 0);
         Due.is("no THIRDS", Due.told("posts 6;").trees(), 0);
